@@ -1,0 +1,71 @@
+/** What the tests share: it prints every answer that is not due and ends with exit code 1 then. */
+final class Check {
+    /** A call that should be refused. */
+    interface Call {
+        int answer();
+    }
+
+    private static int wrong = 0;
+
+    private Check() {
+    }
+
+    static void due(String call, int want, int got) {
+        if (got != want) {
+            wrong++;
+            System.out.println(call + " answered " + got + ", due is " + want);
+        }
+    }
+
+    static void illegal(String call, Call made) {
+        try {
+            int got = made.answer();
+            wrong++;
+            System.out.println(call + " answered " + got + ", due is IllegalArgumentException");
+        } catch (RuntimeException e) {
+            if (e.getClass() != IllegalArgumentException.class) {
+                wrong++;
+                System.out.println(call + " threw " + e + ", due is IllegalArgumentException");
+            }
+        }
+    }
+
+    /** All four counts at once, as most tests want them together. */
+    static void counts(String when, ExternalSorter x, int pairs, int spilled, int consumed, int runs) {
+        due(when + ": count(0)", pairs, x.count(0));
+        due(when + ": count(1)", spilled, x.count(1));
+        due(when + ": count(2)", consumed, x.count(2));
+        due(when + ": count(3)", runs, x.count(3));
+    }
+
+    static void rowIs(String when, ExternalSorter x, int key, int value) {
+        due(when + ": key()", key, x.key());
+        due(when + ": value()", value, x.value());
+        noGroup(when, x);
+    }
+
+    static void groupIs(String when, ExternalSorter x, int key, int... answers) {
+        due(when + ": key()", key, x.key());
+        due(when + ": value()", 0, x.value());
+        for (int what = 0; what < 4; what++) {
+            due(when + ": group(" + what + ")", answers[what], x.group(what));
+        }
+    }
+
+    static void nothingIsCurrent(String when, ExternalSorter x) {
+        rowIs(when, x, 0, 0);
+    }
+
+    private static void noGroup(String when, ExternalSorter x) {
+        for (int what = 0; what < 4; what++) {
+            due(when + ": group(" + what + ")", 0, x.group(what));
+        }
+    }
+
+    static void end() {
+        if (wrong != 0) {
+            System.out.println(wrong + " answers are not as due");
+            System.exit(1);
+        }
+    }
+}
