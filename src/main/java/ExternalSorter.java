@@ -30,6 +30,7 @@ public final class ExternalSorter {
     private static final int CONSUMED_ROWS = 2;
     private static final int COUNT_ANSWERS = 4;
 
+    // At least 1, so it may divide.
     private final int workSize;
     private final int room;
 
@@ -249,7 +250,7 @@ public final class ExternalSorter {
         int right = middle;
         for (int to = low; to < high; to++) {
             // Of equal keys the left one was fed earlier.
-            if (right >= high || left < middle && keyOfRow(left) <= keyOfRow(right)) {
+            if (right >= high || (left < middle && keyOfRow(left) <= keyOfRow(right))) {
                 put(merged, to, at(order, left));
                 left++;
             } else {

@@ -8,6 +8,7 @@ public final class ReadingTest {
         groupOfTheRest();
         skipping();
         skippingAtTheEdges();
+        mostRuns();
         wrongNumbers();
         Check.end();
     }
@@ -130,6 +131,24 @@ public final class ReadingTest {
         Check.due("greatest key", 2, x.skipTo(Integer.MAX_VALUE));
         Check.due("nextRow", ExternalSorter.ROW, x.nextRow());
         Check.rowIs("greatest", x, Integer.MAX_VALUE, 1);
+    }
+
+    /** As many runs as there can be, each of one pair, in the order that is hardest to merge. */
+    private static void mostRuns() {
+        ExternalSorter x = new ExternalSorter(1, 2000);
+        for (int call = 0; call < 11; call++) {
+            x.feedMany(2000 - 200 * call, -1, 200 * call, 200);
+        }
+        x.seal();
+        Check.counts("most runs", x, 2001, 2000, 0, 2001);
+        for (int key = 0; key <= 2000; key += 25) {
+            Check.due("skipTo(" + key + ")", key == 0 ? 0 : 24, x.skipTo(key));
+            Check.due("nextRow", ExternalSorter.ROW, x.nextRow());
+            Check.due("key", key, x.key());
+            Check.due("value", 2000 - key, x.value());
+            Check.due("runs", 2000 - key, x.count(3));
+        }
+        Check.due("nextRow", ExternalSorter.END, x.nextRow());
     }
 
     private static void wrongNumbers() {
