@@ -6,28 +6,42 @@ final class Check {
     }
 
     private static int wrong = 0;
+    private static String sentence = "";
 
     private Check() {
     }
 
+    /** A test of one sentence: what is not due in it is printed with the sentence. */
+    static void sentence(String words, Runnable test) {
+        sentence = "\"" + words + "\": ";
+        try {
+            test.run();
+        } catch (RuntimeException e) {
+            notDue("the test's calls threw " + e);
+        }
+        sentence = "";
+    }
+
     static void due(String call, int want, int got) {
         if (got != want) {
-            wrong++;
-            System.out.println(call + " answered " + got + ", due is " + want);
+            notDue(call + " answered " + got + ", due is " + want);
         }
     }
 
     static void illegal(String call, Call made) {
         try {
             int got = made.answer();
-            wrong++;
-            System.out.println(call + " answered " + got + ", due is IllegalArgumentException");
+            notDue(call + " answered " + got + ", due is IllegalArgumentException");
         } catch (RuntimeException e) {
             if (e.getClass() != IllegalArgumentException.class) {
-                wrong++;
-                System.out.println(call + " threw " + e + ", due is IllegalArgumentException");
+                notDue(call + " threw " + e + ", due is IllegalArgumentException");
             }
         }
+    }
+
+    private static void notDue(String words) {
+        wrong++;
+        System.out.println(sentence + words);
     }
 
     /** All four counts at once, as most tests want them together. */
@@ -59,6 +73,27 @@ final class Check {
     private static void noGroup(String when, ExternalSorter x) {
         for (int what = 0; what < 4; what++) {
             due(when + ": group(" + what + ")", 0, x.group(what));
+        }
+    }
+
+    /** Both are looked at, sealed where they are not, and read to the end: all answers are the same. */
+    static void sameFromHere(String when, ExternalSorter twin, ExternalSorter x) {
+        sameState(when, twin, x);
+        due(when + ": then seal()", twin.seal(), x.seal());
+        sameState(when + ", sealed", twin, x);
+        int rows = twin.count(0) - twin.count(2);
+        for (int row = 0; row <= rows; row++) {
+            due(when + ": then nextRow()", twin.nextRow(), x.nextRow());
+            sameState(when + ", then row " + row, twin, x);
+        }
+    }
+
+    static void sameState(String when, ExternalSorter twin, ExternalSorter x) {
+        due(when + ": key()", twin.key(), x.key());
+        due(when + ": value()", twin.value(), x.value());
+        for (int what = 0; what < 4; what++) {
+            due(when + ": group(" + what + ")", twin.group(what), x.group(what));
+            due(when + ": count(" + what + ")", twin.count(what), x.count(what));
         }
     }
 

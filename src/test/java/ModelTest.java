@@ -93,7 +93,8 @@ public final class ModelTest {
                 return -1;
             }
             int wanted = rows.get(consumed)[0];
-            int[] members = rows.stream().skip(consumed).filter(r -> r[0] == wanted).mapToInt(r -> r[1]).toArray();
+            int[] members = rows.stream().skip(consumed)
+                .filter(r -> r[0] == wanted).mapToInt(r -> r[1]).toArray();
             key = wanted;
             group[0] = members.length;
             group[2] = Integer.MAX_VALUE;
@@ -163,7 +164,7 @@ public final class ModelTest {
         int b = number();
         int c = number();
         // Reset and seal are drawn seldom, so that lists grow and rows are read.
-        switch (draw.nextInt(200) < 3 ? 0 : draw.nextInt(16) == 0 ? 1 : 2 + draw.nextInt(5)) {
+        switch (draw.nextInt(200) < 3 ? 0 : draw.nextInt(16) == 0 ? 1 : 2 + draw.nextInt(6)) {
             case 0:
                 x.reset();
                 m.reset();
@@ -184,11 +185,22 @@ public final class ModelTest {
             case 5:
                 due(call, "nextGroup", m.nextGroup(), x.nextGroup());
                 break;
+            case 6:
+                illegalCall(call, draw.nextBoolean() ? -1 - draw.nextInt(3) : 201 + draw.nextInt(3), a);
+                break;
             default:
                 int to = draw.nextInt(3) == 0 ? a : m.key + draw.nextInt(3);
                 due(call, "skipTo", m.skipTo(to), x.skipTo(to));
                 break;
         }
+    }
+
+    /** The model has no such calls: it stays as it is, and so should the object. */
+    private void illegalCall(int call, int wrong, int any) {
+        String what = name + ", call " + call + ", " + wrong;
+        Check.illegal(what + ": feedMany", () -> x.feedMany(any, any, any, wrong));
+        Check.illegal(what + ": group", () -> x.group(wrong));
+        Check.illegal(what + ": count", () -> x.count(wrong));
     }
 
     private void compareState(int call) {
@@ -200,9 +212,9 @@ public final class ModelTest {
         }
     }
 
-    /** The ten calls that look at the state count too, so a run has fewer that change it. */
+    /** The ten calls that look at the state count too (and up to three are refused): 13 at a time. */
     private void run() {
-        for (int call = 0; call + 11 <= CALLS; call += 11) {
+        for (int call = 0; call + 13 <= CALLS; call += 13) {
             oneCall(call);
             compareState(call);
         }
