@@ -240,7 +240,8 @@ public final class ExternalSorter {
     }
 
     private void mergeNeighbours(int width) {
-        for (int low = 0; low + width < fed; low += width + width) {
+        // No width is below 1: it is looked at so that the loop's end can be seen from here.
+        for (int low = 0; width > 0 && low + width < fed; low += width + width) {
             mergeStretches(low, low + width, Math.min(low + width + width, fed));
         }
     }

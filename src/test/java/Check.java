@@ -28,6 +28,12 @@ final class Check {
         }
     }
 
+    static void holds(String words, boolean isSo) {
+        if (!isSo) {
+            notDue(words + " does not hold");
+        }
+    }
+
     static void illegal(String call, Call made) {
         try {
             int got = made.answer();

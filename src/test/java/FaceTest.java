@@ -33,14 +33,15 @@ public final class FaceTest {
         TreeSet<String> want = new TreeSet<>(Arrays.asList(FACE));
         TreeSet<String> got = membersThatAreNotPrivate();
         for (String member : want) {
-            Check.due("has " + member, 1, got.contains(member) ? 1 : 0);
+            Check.holds("has " + member, got.contains(member));
         }
         for (String member : got) {
-            Check.due("may have " + member, 1, want.contains(member) ? 1 : 0);
+            Check.holds("may have " + member, want.contains(member));
         }
         int modifiers = ExternalSorter.class.getModifiers();
-        Check.due("public", 1, Modifier.isPublic(modifiers) ? 1 : 0);
-        Check.due("final", 1, Modifier.isFinal(modifiers) ? 1 : 0);
+        Check.holds("public", Modifier.isPublic(modifiers));
+        Check.holds("final", Modifier.isFinal(modifiers));
+        nothingElse();
         constants();
         Check.end();
     }
@@ -63,6 +64,21 @@ public final class FaceTest {
             }
         }
         return members;
+    }
+
+    /** The document's class line names no package, no class above it and no interface. */
+    private static void nothingElse() {
+        Check.holds("extends Object alone", ExternalSorter.class.getSuperclass() == Object.class);
+        Check.due("interfaces", 0, ExternalSorter.class.getInterfaces().length);
+        Check.due("type parameters", 0, ExternalSorter.class.getTypeParameters().length);
+        Check.due("characters of its package's name", 0, ExternalSorter.class.getPackageName().length());
+        Check.due("public members in all, with Object's", FACE.length + 9,
+            ExternalSorter.class.getFields().length + ExternalSorter.class.getConstructors().length
+                + ExternalSorter.class.getMethods().length);
+        for (Class<?> inside : ExternalSorter.class.getDeclaredClasses()) {
+            int open = inside.getModifiers() & (Modifier.PUBLIC | Modifier.PROTECTED);
+            Check.due("may be seen outside: " + inside.getName(), 0, open);
+        }
     }
 
     private static void constants() {

@@ -177,7 +177,7 @@ public final class TermsBoundaryTest {
         for (State state : State.values()) {
             ExternalSorter x = state.make();
             boolean refused = x.nextRow() == ExternalSorter.NOT_SEALED;
-            Check.due(state + " is feeding", state.reading ? 0 : 1, refused ? 1 : 0);
+            Check.holds(state + ": nextRow is refused while feeding alone", refused != state.reading);
             int seal = state.reading ? ExternalSorter.SEALED : ExternalSorter.OK;
             Check.due(state + ": seal", seal, x.seal());
             Check.due(state + ": feed behind sealing", ExternalSorter.SEALED, x.feed(1, 1));
