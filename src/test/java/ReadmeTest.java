@@ -31,7 +31,6 @@ public final class ReadmeTest {
         return rest.subList(0, rest.indexOf("```"));
     }
 
-    /** The whole face should be shown, so all of its names are looked for. */
     private static void calls(List<String> lines) throws ReflectiveOperationException {
         Set<String> shown = new TreeSet<>();
         ExternalSorter x = null;
@@ -51,6 +50,10 @@ public final class ReadmeTest {
                 Check.holds(line + " is a call with its answer:", false);
             }
         }
+        wholeFaceIsAmong(shown);
+    }
+
+    private static void wholeFaceIsAmong(Set<String> shown) {
         for (Method m : ExternalSorter.class.getDeclaredMethods()) {
             if (Modifier.isPublic(m.getModifiers())) {
                 Check.holds(m.getName() + " is shown:", shown.contains(m.getName()));
